@@ -1,0 +1,133 @@
+import java.lang.reflect.Constructor;
+import java.lang.reflect.Field;
+import java.lang.reflect.Method;
+import java.lang.reflect.Modifier;
+import java.nio.file.Files;
+import java.nio.file.Path;
+import java.util.ArrayList;
+import java.util.List;
+import java.util.Set;
+import java.util.TreeSet;
+import java.util.regex.Matcher;
+import java.util.regex.Pattern;
+
+/** The public face against the document, and what LANGUAGE.md says of the source as such. */
+public final class FaceTest {
+    private static final Pattern METHOD = Pattern.compile("public (int|long) (\\w+)\\(([^)]*)\\)([^;]*);");
+    private static final String[] WORDS_RULED_OUT = {
+        "->", "::", "finally", "synchronized", "assert ", "getMessage", "hashCode", "System.out",
+        "Exact(", "double", "float", "catch", "volatile", "native", "import java.util.*"
+    };
+
+    public static void main(String[] args) throws Exception {
+        constants();
+        methods();
+        members();
+        source();
+        Due.end("FaceTest");
+    }
+
+    private static void constants() {
+        Due.same("UNKNOWN", FlowHouse.UNKNOWN, -1);
+        Due.same("OUTSIDE", FlowHouse.OUTSIDE, -2);
+        Due.same("NO", FlowHouse.NO, -3);
+        Due.same("FULL", FlowHouse.FULL, -4);
+        Due.same("NOTHING", FlowHouse.NOTHING, Long.MIN_VALUE);
+    }
+
+    private static String told(Method m) {
+        StringBuilder all = new StringBuilder(m.getReturnType() + " " + m.getName() + "(");
+        for (Class<?> c : m.getParameterTypes()) {
+            all.append(c).append(' ');
+        }
+        for (Class<?> c : m.getExceptionTypes()) {
+            all.append(" throws ").append(c.getSimpleName());
+        }
+        return all.append(")").toString();
+    }
+
+    private static String told(Matcher m) {
+        StringBuilder all = new StringBuilder(m.group(1) + " " + m.group(2) + "(");
+        for (String part : m.group(3).split(", ")) {
+            all.append(part.split(" ")[0]).append(' ');
+        }
+        return all.append(m.group(4).stripTrailing()).append(")").toString();
+    }
+
+    private static void methods() throws Exception {
+        Set<String> due = new TreeSet<>();
+        Matcher m = METHOD.matcher(Files.readString(Path.of("../shared/DOC.md")));
+        while (m.find()) {
+            due.add(told(m));
+        }
+        Set<String> found = new TreeSet<>();
+        for (Method method : FlowHouse.class.getDeclaredMethods()) {
+            if (!Modifier.isPrivate(method.getModifiers())) {
+                found.add(told(method));
+                Due.yes(method + " is public and no more", method.getModifiers() == Modifier.PUBLIC);
+            }
+        }
+        Due.same("methods told", due.size(), 55);
+        Due.yes("methods " + found + " are " + due, found.equals(due));
+    }
+
+    private static void members() {
+        Due.same("modifiers", FlowHouse.class.getModifiers(), Modifier.PUBLIC | Modifier.FINAL);
+        Constructor<?>[] all = FlowHouse.class.getDeclaredConstructors();
+        Due.same("constructors", all.length, 1);
+        Due.yes("public", Modifier.isPublic(all[0].getModifiers()) && all[0].getParameterCount() == 0);
+        List<String> names = new ArrayList<>();
+        for (Method method : FlowHouse.class.getDeclaredMethods()) {
+            if (Modifier.isPublic(method.getModifiers())) {
+                names.add(method.getName());
+            }
+        }
+        looksInto(FlowHouse.class, names);
+        for (Class<?> inside : FlowHouse.class.getDeclaredClasses()) {
+            Due.yes(inside + " is static", Modifier.isStatic(inside.getModifiers()));
+            Due.yes(inside + " is not public", !Modifier.isPublic(inside.getModifiers()));
+            looksInto(inside, names);
+        }
+        Due.yes("some twelve classes", FlowHouse.class.getDeclaredClasses().length <= 11);
+    }
+
+    private static void looksInto(Class<?> c, List<String> publicNames) {
+        int held = 0;
+        for (Field field : c.getDeclaredFields()) {
+            int is = field.getModifiers();
+            if (Modifier.isStatic(is)) {
+                Due.yes(field + " is final", Modifier.isFinal(is));
+            } else {
+                held++;
+            }
+            if (c == FlowHouse.class && !Modifier.isPrivate(is)) {
+                Due.yes(field + " is told", Modifier.isPublic(is) && Modifier.isStatic(is));
+            }
+        }
+        Due.yes(c + " has some twenty fields", held <= 20);
+        for (Method method : c.getDeclaredMethods()) {
+            Due.yes(method + " has few parameters", method.getParameterCount() <= 7);
+            if (c != FlowHouse.class || Modifier.isPrivate(method.getModifiers())) {
+                Due.yes(method + " has a name of its own", !publicNames.contains(method.getName()));
+            }
+        }
+    }
+
+    private static void source() throws Exception {
+        String text = Files.readString(Path.of("src/main/java/FlowHouse.java"));
+        String code = text.replaceAll("(?s)/\\*.*?\\*/", "").replaceAll("//[^\n]*", "");
+        for (String word : WORDS_RULED_OUT) {
+            Due.yes("no " + word, !code.contains(word));
+        }
+        Matcher imports = Pattern.compile("import ([^;]*);").matcher(code);
+        while (imports.find()) {
+            Due.yes("import " + imports.group(1), imports.group(1).equals("java.util.Arrays"));
+        }
+        Due.yes("no package line", !code.contains("package "));
+        for (int i = 0; i < text.length(); i++) {
+            if (text.charAt(i) > 126) {
+                Due.yes("plain characters alone", false);
+            }
+        }
+    }
+}
