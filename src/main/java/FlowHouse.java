@@ -2150,6 +2150,8 @@ public final class FlowHouse {
         private static final int HOME_CODES = 1 + MOST_NUMBERS + MOST_NUMBERS * MOST_NUMBERS;
         private static final int UNIT_CODES = MOST_UNITS + 1;
         private static final int STATES = UNIT_CODES * UNIT_CODES * THERE_CODES * HOME_CODES;
+        /** Few of all STATES are ever met: 636 at most, over all there is to try. */
+        private static final int MOST_MET = 700;
         private static final int STEPS = 5, STEPS_WITH_TURNS = 7;
         private static final int STAYS = -1, BAD = -2;
 
@@ -2157,9 +2159,9 @@ public final class FlowHouse {
         private int numbers;
         private int room;
         private final boolean[] seen = new boolean[STATES];
-        private final int[] met = new int[STATES];
-        private final int[] from = new int[STATES];
-        private final byte[] byStep = new byte[STATES];
+        private final int[] met = new int[MOST_MET];
+        private final int[] from = new int[MOST_MET];
+        private final byte[] byStep = new byte[MOST_MET];
         private int metCount;
         int[] badRow = new int[0];
         private int unit;
@@ -2175,14 +2177,14 @@ public final class FlowHouse {
             metCount = 0;
             badRow = new int[0];
             meet(0, -1, 0);
-            for (int at = 0; at < metCount && at < STATES; at++) {
+            for (int at = 0; at < metCount && at < MOST_MET; at++) {
                 goOn(at, turns ? STEPS_WITH_TURNS : STEPS);
             }
             return metCount;
         }
 
         private void meet(int state, int comesFrom, int step) {
-            if (state < 0 || state >= STATES || seen[state] || metCount >= STATES) {
+            if (state < 0 || state >= STATES || seen[state] || metCount >= MOST_MET) {
                 return;
             }
             seen[state] = true;
@@ -2208,7 +2210,7 @@ public final class FlowHouse {
 
         private void keepBadRow(int at, int lastStep) {
             int length = 1;
-            for (int k = at; k > 0 && length < STATES; k = from[k]) {
+            for (int k = at; k > 0 && length < MOST_MET; k = from[k]) {
                 length++;
             }
             badRow = new int[length];
