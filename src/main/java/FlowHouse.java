@@ -1443,7 +1443,8 @@ public final class FlowHouse {
         private static final int LAST_LETTER = -5;
         private static final int ADD = -6, TAKE = -7, TIMES = -8, DIVIDE = -9, REST = -10;
         private static final int LEAST = -11, GREATEST = -12, NEGATE = -13, CHOOSE = -14;
-        private static final int[] FIRST_STEPS = {-1, 1000000, -1, DIVIDE, ADD, -1, 2, DIVIDE, 1000};
+        /** w + 1000000 / w, then w / 2, then 1000; no text of its own for mark. */
+        private static final int[] FIRST_STEPS = {-1, 1000000, -1, -9, -6, -1, 2, -9, 1000};
         private static final int[] FIRST_ENDS = {5, 8, 9, 9};
 
         private final Tape tape;
@@ -1468,7 +1469,7 @@ public final class FlowHouse {
             return r >= AT_FIRST && r < RULES && steps[r + 1].length > 0;
         }
 
-        /** If it answers false, the tape stands at the TOKEN at fault, and the RULE is as it was. */
+        /** If it answers false, the tape stands at the TOKEN at fault; the RULE is as it was. */
         boolean readRule(int r) {
             drafted = 0;
             factors = 0;
@@ -1510,37 +1511,27 @@ public final class FlowHouse {
             }
         }
 
+        /** A sign between FACTORS waits for the next FACTOR, one between TERMS for a whole TERM. */
         private boolean readSum(int opens) {
-            int sign = 0;
-            for (int i = 0; i < Tape.MOST; i++) {
-                if (!readProduct(opens)) {
-                    return false;
-                }
-                if (sign != 0) {
-                    lay(sign);
-                }
-                sign = tape.isSign('+') ? ADD : tape.isSign('-') ? TAKE : 0;
-                if (sign == 0) {
-                    return true;
-                }
-                tape.advance();
-            }
-            return false;
-        }
-
-        private boolean readProduct(int opens) {
-            int sign = 0;
+            int betweenTerms = 0;
+            int betweenFactors = 0;
             for (int i = 0; i < Tape.MOST; i++) {
                 if (!readFactor(opens)) {
                     return false;
                 }
-                if (sign != 0) {
-                    lay(sign);
+                if (betweenFactors != 0) {
+                    lay(betweenFactors);
                 }
-                sign = tape.isSign('*') ? TIMES : tape.isSign('/') ? DIVIDE
+                betweenFactors = tape.isSign('*') ? TIMES : tape.isSign('/') ? DIVIDE
                         : tape.isSign('%') ? REST : 0;
-                if (sign == 0) {
-                    return true;
+                if (betweenFactors == 0) {
+                    if (betweenTerms != 0) {
+                        lay(betweenTerms);
+                    }
+                    betweenTerms = tape.isSign('+') ? ADD : tape.isSign('-') ? TAKE : 0;
+                    if (betweenTerms == 0) {
+                        return true;
+                    }
                 }
                 tape.advance();
             }
@@ -2158,7 +2149,7 @@ public final class FlowHouse {
         private int units;
         private int numbers;
         private int room;
-        private final boolean[] seen = new boolean[STATES];
+        private final byte[] seen = new byte[STATES];
         private final int[] met = new int[MOST_MET];
         private final int[] from = new int[MOST_MET];
         private final byte[] byStep = new byte[MOST_MET];
@@ -2173,7 +2164,7 @@ public final class FlowHouse {
             units = u;
             numbers = q;
             room = c;
-            Arrays.fill(seen, false);
+            Arrays.fill(seen, (byte) 0);
             metCount = 0;
             badRow = new int[0];
             meet(0, -1, 0);
@@ -2184,10 +2175,10 @@ public final class FlowHouse {
         }
 
         private void meet(int state, int comesFrom, int step) {
-            if (state < 0 || state >= STATES || seen[state] || metCount >= MOST_MET) {
+            if (state < 0 || state >= STATES || seen[state] != 0 || metCount >= MOST_MET) {
                 return;
             }
-            seen[state] = true;
+            seen[state] = 1;
             met[metCount] = state;
             from[metCount] = comesFrom;
             byStep[metCount] = (byte) step;
@@ -2383,6 +2374,7 @@ public final class FlowHouse {
         static final int PLAIN = 0, MAIL = 1, SAFE_MAIL = 2;
         static final int IS_NOTHING = 1, BAD_CAST = 2, BAD_INDEX = 3, BAD_STORE = 4, BAD_LENGTH = 5;
         private static final int NO_HOST = -1;
+        private static final int MAIL_STAMPS = 3;
 
         final int[] kinds = new int[SHELVES];
         final long[][] cells = new long[SHELVES][0];
@@ -2517,7 +2509,8 @@ public final class FlowHouse {
         }
 
         int stampsOf(int number) {
-            return number >= 0 && number < hostsMade && hostKinds[number] == SAFE_MAIL ? 3 * 3 - 2 : 3;
+            boolean safe = isMail(number) && hostKinds[number] == SAFE_MAIL;
+            return safe ? 3 * MAIL_STAMPS - 2 : MAIL_STAMPS;
         }
 
         void goUpAndDown(int n) {
