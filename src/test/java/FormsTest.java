@@ -84,6 +84,7 @@ public final class FormsTest {
                 "a:32 b:32 c:32 d:32 e:32 f:32 g:32 h:1 i:2 j:4 k:8 l:17=131071"), 12);
         Due.same("letter", x.letter(3), 32);
         Due.same("form", Due.form(x, 3, "x:4 xx:2 xxx:1 y:1"), 4);
+        Due.same("form", Due.form(x, 3, "ab:4 ba:2 a:1 b:1 abcdefgh:4 abcdefhg:2 bbcdefgh:2"), 7);
     }
 
     private static void fill() {
@@ -152,6 +153,11 @@ public final class FormsTest {
         Due.form(x, 0, "a:4=5 s:12=sum b:8=7");
         x.letter(0);
         Due.same("its own bits are 0", x.fieldOf(0, 1), 5 * 16 + 7 + 1);
+        Due.same("check", x.check(0), 0);
+        x.cut(40);
+        x.octet(3, 99);
+        x.letter(0);
+        Due.same("what was behind counts for nothing", x.fieldOf(0, 1), 5 * 16 + 7 + 1);
         Due.same("check", x.check(0), 0);
         Due.form(x, 0, "s:1=sum a:7=3");
         x.letter(0);

@@ -87,6 +87,11 @@ public final class RulesTest {
         fault("ac k=1" + REST, 0);
         fault("ack 1=1" + REST, 4);
         fault("ack==1" + REST, 4);
+        fault("bck=1" + REST, 0);
+        fault("acc=1" + REST, 0);
+        fault("ack=nin(1,2)" + REST, 4);
+        fault("ack=mix(1,2)" + REST, 4);
+        fault("ack=of(1,2,3)" + REST, 4);
         fault("ack=" + REST, 4);
         fault("ack=1;;loss=1;late=1;", 6);
         fault("ack=1234567" + REST, 4);
@@ -166,6 +171,8 @@ public final class RulesTest {
             Due.same("new", x.worth(1, text, 0, 0, 0, 0, 0), text < 3 ? 1 + text : 2);
         }
         Due.same("another", x.worth(0, 0, 0, 0, 0, 0, 0), NOTHING);
+        Due.same("the last", Due.allow(x, 5, "ack=1;loss=2;late=3;"), 3);
+        Due.same("the last", x.worth(5, 2, 0, 0, 0, 0, 0), 3);
         Due.same("RULE -1", x.worth(-1, 0, 1000, 0, 0, 0, 0), NOTHING);
         Due.same("RULE 6", x.worth(6, 0, 1000, 0, 0, 0, 0), NOTHING);
         Due.same("text -1", x.worth(1, -1, 1000, 0, 0, 0, 0), NOTHING);
