@@ -27,6 +27,9 @@ final class EdgesOfFlows {
         fenceReached();
         rings();
         doubledGoOn();
+        sentInAll();
+        sixFlows();
+        markAtFirst();
     }
 
     private static FlowHouse house(int lines, int rate, int trip) {
@@ -546,5 +549,63 @@ final class EdgesOfFlows {
             Due.same("LOST there", x.lineOf(1, 7), lost < 2 ? 1 : 0);
             figure("answered", x, ANSWERS, lost < 2 ? 1 : 2);
         }
+    }
+
+    private static void sentInAll() {
+        Document.promise(9, "8 DATA sent in all, 9 of these again, 10 ANSWERS sent, 11 TWINS, 12 FAILS, 13 WRONG,");
+        FlowHouse x = house(2, 10, 5);
+        x.flow(1, 10, 10, 3, 1, 2, 0);
+        x.fate(0, 0, 1);
+        x.fate(1, 0, 1);
+        x.go(1);
+        int[][] due = {{0, 1, 0, 0}, {100, 2, 1, 0}, {106, 2, 1, 1}, {300, 3, 2, 1}, {306, 3, 2, 2}};
+        for (int[] d : due) {
+            goTill(x, d[0]);
+            Due.same("NOW", x.count(0), d[0]);
+            figure("DATA in all at " + d[0], x, 8, d[1]);
+            figure("of these again at " + d[0], x, AGAIN, d[2]);
+            figure("ANSWERS at " + d[0], x, ANSWERS, d[3]);
+        }
+    }
+
+    private static void sixFlows() {
+        FlowHouse x = house(2, 10, 5);
+        for (int i = 0; i < 6; i++) {
+            x.flow(10 + i, 10, 1, 4, 1, 2, 0);
+        }
+        x.go(500);
+        x.go(500);
+        for (int i = 0; i < 6; i++) {
+            Due.same("each has its own UNITS", x.flowOf(i, GIVEN), 10 + i);
+            Due.same("each has its own ANSWERS", x.flowOf(i, OPEN), 10 + i);
+            Due.same("the last one", x.given(i, 9 + i), 9 + i);
+        }
+        Due.same("nothing is to come", x.count(4), 0);
+    }
+
+    /** RULE -1 has no mark: it is as loss, w / 2. The ANSWERS wait on LINE 1, behind a long one. */
+    private static void markAtFirst() {
+        FlowHouse x = new FlowHouse();
+        x.line(100, 0, 2000, 2000);
+        x.line(1, 0, 2000, 10);
+        x.flow(60, 1, 10, 8, 1, 2, 0);
+        int w = 1000;
+        int marks = 0;
+        for (int i = 0; i < 300 && marks < 5; i++) {
+            int open = x.flowOf(0, OPEN);
+            int marked = x.lineOf(1, 3);
+            x.go(1);
+            int answered = x.flowOf(0, OPEN) - open;
+            int now = x.flowOf(0, W);
+            if (answered == 1 && now < w) {
+                Due.same("as loss", now, Math.max(1000, w / 2));
+                marks++;
+            } else if (answered == 1) {
+                Due.yes("ack", now == w + 1000000 / w || now == Math.max(1000, w / 2));
+            }
+            Due.yes("some are MARKED before", marks == 0 || marked > 0);
+            w = now;
+        }
+        Due.same("some were MARKED", marks, 5);
     }
 }

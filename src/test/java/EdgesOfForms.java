@@ -141,6 +141,7 @@ final class EdgesOfForms {
         fault("abcdefgh:8 abcdefgh:8", 11);
         good("abcdefgh:8 abcdefgg:8 abcdefg:8 bbcdefgh:8", 4);
         good("a:8 aa:8 aaa:8 aaaa:8 aaaaa:8 aaaaaa:8 aaaaaaa:8 aaaaaaaa:8", 8);
+        good("ab:8 ba:8 abc:8 cab:8 bac:8 az:8 b:8 za:8", 8);
         fault("a:8 a", 4);
         fault("a:8=len len:8 len:8", 14);
     }

@@ -120,7 +120,7 @@ final class EdgesOfNets {
 
     private static void luck() {
         Document.promise(4, "SEED and LOSS of a LINE: 1. UNKNOWN; OUTSIDE: LOSS.");
-        BUSY.range("luck's LOSS", (x, v) -> x.luck(2, 5, v), 0, 1024, OUTSIDE);
+        BUSY.rangeOfOne("luck's LOSS", (x, v) -> x.luck(2, 5, v), 0, 1024, OUTSIDE);
         BUSY.outside("luck's LINE", (x, v) -> x.luck(v, 5, 5), 0, 2, UNKNOWN);
         BUSY.refuses("UNKNOWN is ahead of OUTSIDE", x -> x.luck(3, 5, -1), UNKNOWN);
         for (int seed : new int[] {Integer.MIN_VALUE, -1, 0, 1, Integer.MAX_VALUE}) {

@@ -195,6 +195,13 @@ final class EdgesOfRules {
         Document.term(3, "(600 bytes; TOKENS as long as may be, blanks 32, 10 between):");
         fault("acks=1" + REST, 0);
         fault("ac=1" + REST, 0);
+        fault("bck=1" + REST, 0);
+        fault("adk=1" + REST, 0);
+        fault("acl=1" + REST, 0);
+        fault("ack=1;boss=1;late=1;", 6);
+        fault("ack=nin(1,2)" + REST, 4);
+        fault("ack=nax(1,2)" + REST, 4);
+        fault("ack=of(1,2,3)" + REST, 4);
         fault("loss=1;late=1;", 0);
         fault("ack=1;late=1;loss=1;", 6);
         fault("ack=1;loss=1;mark=1;", 13);

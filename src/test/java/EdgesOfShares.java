@@ -29,9 +29,9 @@ final class EdgesOfShares {
         Document.term(5, "FLOWS of a share 0 .. 9 have a WANT (0 .. 1000; -1 no end) and some of 6 TUBES");
         Document.promise(22, "FLOW i of the shares has a WANT (-1: no end) and TUBES (bits 0 to 5): 1. UNKNOWN: 0 .. 9; "
                 + "OUTSIDE. (It is none before.)");
-        BUSY.range("want's FLOW", (x, v) -> x.want(v, 5, 1), 0, 9, UNKNOWN);
-        BUSY.range("want's WANT", (x, v) -> x.want(0, v, 1), -1, 1000, OUTSIDE);
-        BUSY.range("want's TUBES", (x, v) -> x.want(0, 5, v), 0, 63, OUTSIDE);
+        BUSY.rangeOfOne("want's FLOW", (x, v) -> x.want(v, 5, 1), 0, 9, UNKNOWN);
+        BUSY.rangeOfOne("want's WANT", (x, v) -> x.want(0, v, 1), -1, 1000, OUTSIDE);
+        BUSY.rangeOfOne("want's TUBES", (x, v) -> x.want(0, 5, v), 0, 63, OUTSIDE);
         BUSY.refuses("UNKNOWN is ahead of OUTSIDE", x -> x.want(10, -2, 64), UNKNOWN);
         BUSY.refuses("the same once more", x -> x.want(0, 50, 1), 1);
         FlowHouse x = new FlowHouse();
@@ -159,12 +159,12 @@ final class EdgesOfShares {
         Document.term(6, "a row of SERVERS (1 to 3) each has a rate R (1 .. 500), and a delay T (0 .. 1000), less what others "
                 + "(burst c, 0 .. 5000, rate q, below R) take:");
         Document.promise(26, "SERVER i (0 .. 2): 1. UNKNOWN; OUTSIDE. (R 1, else 0 at first.)");
-        BUSY.range("server's i", (x, v) -> x.server(v, 5, 0, 0, 0), 0, 2, UNKNOWN);
-        BUSY.range("server's R", (x, v) -> x.server(0, v, 0, 0, 0), 1, 500, OUTSIDE);
-        BUSY.range("server's T", (x, v) -> x.server(0, 9, v, 0, 0), 0, 1000, OUTSIDE);
-        BUSY.range("server's c", (x, v) -> x.server(0, 9, 0, v, 0), 0, 5000, OUTSIDE);
+        BUSY.rangeOfOne("server's i", (x, v) -> x.server(v, 5, 0, 0, 0), 0, 2, UNKNOWN);
+        BUSY.rangeOfOne("server's R", (x, v) -> x.server(0, v, 0, 0, 0), 1, 500, OUTSIDE);
+        BUSY.rangeOfOne("server's T", (x, v) -> x.server(0, 9, v, 0, 0), 0, 1000, OUTSIDE);
+        BUSY.rangeOfOne("server's c", (x, v) -> x.server(0, 9, 0, v, 0), 0, 5000, OUTSIDE);
         for (int rate : new int[] {1, 2, 9, 500}) {
-            BUSY.range("server's q", (x, v) -> x.server(0, rate, 0, 0, v), 0, rate - 1, OUTSIDE);
+            BUSY.rangeOfOne("server's q", (x, v) -> x.server(0, rate, 0, 0, v), 0, rate - 1, OUTSIDE);
         }
         BUSY.refuses("UNKNOWN is ahead of OUTSIDE", x -> x.server(3, 0, -1, -1, -1), UNKNOWN);
         FlowHouse x = new FlowHouse();
@@ -233,9 +233,9 @@ final class EdgesOfShares {
     private static void mend() {
         Document.term(7, "K letters (1 .. 6) of L bytes (1 .. 8) get M more (1 .. 4):");
         Document.promise(28, "K, M, L; all letters are 0: 1. OUTSIDE.");
-        BUSY.range("mend's K", (x, v) -> x.mend(v, 1, 1), 1, 6, OUTSIDE);
-        BUSY.range("mend's M", (x, v) -> x.mend(1, v, 1), 1, 4, OUTSIDE);
-        BUSY.range("mend's L", (x, v) -> x.mend(1, 1, v), 1, 8, OUTSIDE);
+        BUSY.rangeOfOne("mend's K", (x, v) -> x.mend(v, 1, 1), 1, 6, OUTSIDE);
+        BUSY.rangeOfOne("mend's M", (x, v) -> x.mend(1, v, 1), 1, 4, OUTSIDE);
+        BUSY.rangeOfOne("mend's L", (x, v) -> x.mend(1, 1, v), 1, 8, OUTSIDE);
         FlowHouse x = BUSY.made();
         Due.same("mend", x.mend(3, 2, 4), 1);
         for (int i = 0; i < 3; i++) {
@@ -290,6 +290,15 @@ final class EdgesOfShares {
             if (Integer.bitCount(set) != 3) {
                 BUSY.refuses("not just K: " + set, x -> x.back(s, 0), NOTHING);
             }
+        }
+        for (int set : new int[] {32 + 3, 64 + 3, 32 + 16 + 1}) {
+            BUSY.answers("beyond K + M, behind another one", x -> 0 * x.back(7, 0) + x.back(set, 0), NOTHING);
+        }
+        FlowHouse one = new FlowHouse();
+        one.mend(1, 1, 1);
+        one.data(0, 9);
+        for (int set = -1; set <= 16; set++) {
+            Due.same("K 1, M 1: " + set, one.back(set, 0), set == 1 || set == 2 ? 9 : NOTHING);
         }
         for (int i = -1; i < 3; i++) {
             int letter = i;

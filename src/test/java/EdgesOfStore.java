@@ -38,8 +38,8 @@ final class EdgesOfStore {
                 + "(5: cells that take MAIL hosts alone), a HOST (6).");
         Document.promise(43, "A SHELF gets n cells (0, nothing) of a kind 1 .. 5: 1. UNKNOWN; OUTSIDE: kind, n above 40. "
                 + "FAULT 5.");
-        BUSY.range("crate's SHELF", (x, v) -> x.crate(v, 1, 1), 0, 7, UNKNOWN);
-        BUSY.range("crate's kind", (x, v) -> x.crate(0, v, 1), 1, 5, OUTSIDE);
+        BUSY.rangeOfOne("crate's SHELF", (x, v) -> x.crate(v, 1, 1), 0, 7, UNKNOWN);
+        BUSY.rangeOfOne("crate's kind", (x, v) -> x.crate(0, v, 1), 1, 5, OUTSIDE);
         for (int kind = 1; kind <= 5; kind++) {
             int k = kind;
             for (int n : new int[] {41, 42, 297, MAX}) {
@@ -109,6 +109,10 @@ final class EdgesOfStore {
         x.move(EMPTY, 1);
         x.set(EMPTY, 2, 0, 99);
         Due.same("what it holds, not one like it", x.get(1, 2, 0), 99);
+        x.move(0, MAIL);
+        Due.same("the same HOST", x.asks(0, 0), 22);
+        x.move(0, PLAIN);
+        Due.same("the other HOST", x.asks(0, 0), 10);
         x.move(1, -1);
         Due.same("the other one holds it still", x.get(EMPTY, 2, 0), 99);
     }
@@ -197,6 +201,10 @@ final class EdgesOfStore {
                 }
             }
         }
+        for (int type = 1; type <= 3; type++) {
+            int t = type;
+            BUSY.rangeOfOne("set's i", (x, v) -> x.set(t - 1, t, v, 5), 0, 2, INDEX);
+        }
         long[] values = {0, 1, -1, 127, 128, 255, 256, -128, -129, 32768, 2147483647L, 2147483648L, 4294967295L, 4294967296L,
             -2147483648L, -2147483649L, Long.MAX_VALUE, Long.MIN_VALUE + 7};
         for (long v : values) {
@@ -231,6 +239,7 @@ final class EdgesOfStore {
         BUSY.refuses("MAIL ENDS take MAIL alone", x -> x.seat(4, 0, PLAIN), STORE);
         BUSY.refuses("MAIL ENDS take MAIL alone", x -> x.seat(4, 2, PLAIN), STORE);
         BUSY.answers("a MAIL", x -> x.seat(4, 2, MAIL), 1);
+        BUSY.answers("a MAIL", x -> 0 * x.seat(4, 2, MAIL) + x.get(4, 4, 2), 1);
         BUSY.answers("SAFE MAIL", x -> 0 * x.host(0, 2) + x.seat(4, 2, 0), 1);
         BUSY.answers("nothing", x -> x.seat(4, 0, EMPTY), 1);
         BUSY.answers("nothing", x -> 0 * x.seat(4, 0, EMPTY) + x.get(4, 4, 0), -1);

@@ -54,7 +54,16 @@ final class EdgesOfTrials {
             Due.same("STEP " + i, x.bad(i), due[i]);
         }
         Due.same("one alone can't go behind itself", x.tried(1, 2, 1, 1), 8);
-        Due.same("the most", x.tried(4, 3, 2, 1), 636);
+        Document.term(8, "5 (if K is 1) the first letter there goes behind the last one there; 6 (if K is 1) the first answer "
+                + "likewise.");
+        Due.same("K 0", x.tried(4, 3, 2, 0), 123);
+        Due.same("so none is BAD", x.bad(-1), 0);
+        Due.same("K 1", x.tried(4, 3, 2, 1), 636);
+        Due.same("so one is BAD", x.bad(-1), 12);
+        Due.same("one UNIT on lines of two letters", x.tried(1, 2, 2, 1), 18);
+        Due.same("one number on lines of two letters", x.tried(1, 1, 2, 0), 12);
+        Due.same("two on their way at once", x.bad(-1), 4);
+        Due.same("both are taken", x.bad(2) * 10 + x.bad(3), 11);
     }
 
     private static void bad() {
@@ -82,10 +91,10 @@ final class EdgesOfTrials {
         Document.term(9, "A FILM of 1 to 12 pieces, 0, 1, .., in grades 0 .. 3 with SIZES and WORTHS told for each piece and "
                 + "grade;");
         Document.promise(34, "SIZE (1 .. 1000), WORTH (0 .. 1000) of a piece in a grade (1, 0 at first): 1. UNKNOWN; OUTSIDE.");
-        BUSY.range("piece's i", (x, v) -> x.piece(v, 0, 5, 5), 0, 11, UNKNOWN);
-        BUSY.range("piece's grade", (x, v) -> x.piece(0, v, 5, 5), 0, 3, UNKNOWN);
-        BUSY.range("piece's SIZE", (x, v) -> x.piece(0, 0, v, 5), 1, 1000, OUTSIDE);
-        BUSY.range("piece's WORTH", (x, v) -> x.piece(0, 0, 5, v), 0, 1000, OUTSIDE);
+        BUSY.rangeOfOne("piece's i", (x, v) -> x.piece(v, 0, 5, 5), 0, 11, UNKNOWN);
+        BUSY.rangeOfOne("piece's grade", (x, v) -> x.piece(0, v, 5, 5), 0, 3, UNKNOWN);
+        BUSY.rangeOfOne("piece's SIZE", (x, v) -> x.piece(0, 0, v, 5), 1, 1000, OUTSIDE);
+        BUSY.rangeOfOne("piece's WORTH", (x, v) -> x.piece(0, 0, 5, v), 0, 1000, OUTSIDE);
         BUSY.refuses("UNKNOWN is ahead of OUTSIDE", x -> x.piece(12, 0, 0, -1), UNKNOWN);
         BUSY.refuses("UNKNOWN is ahead of OUTSIDE", x -> x.piece(0, 4, 0, -1), UNKNOWN);
         FlowHouse x = new FlowHouse();
@@ -142,6 +151,7 @@ final class EdgesOfTrials {
         quick.range("film's b", (x, v) -> x.film(1, v, 400, 5), 0, 400, OUTSIDE);
         quick.range("film's b", (x, v) -> x.film(1, v, 7, 5), 0, 7, OUTSIDE);
         quick.range("film's MOST", (x, v) -> x.film(1, 1, v, 5), 1, 400, OUTSIDE);
+        quick.outside("film's MOST without b", (x, v) -> x.film(1, 0, v, 5), 1, 400, OUTSIDE);
         quick.range("film's LONG", (x, v) -> x.film(1, 1, 5, v), 1, 100, OUTSIDE);
         quick.refuses("NO", x -> x.film(1, 0, 5, 5), NO);
         quick.refuses("NO", x -> x.film(12, 0, 400, 100), NO);
@@ -173,6 +183,14 @@ final class EdgesOfTrials {
         Due.same("MOST at most", x.film(2, 9, 9, 100), NO);
         Due.same("just MOST", x.film(2, 10, 10, 100), 1);
         Due.same("just MOST", x.film(2, 1, 10, 100), 1);
+        FlowHouse w = new FlowHouse();
+        w.piece(0, 3, 4, 9);
+        w.piece(1, 2, 3, 9);
+        w.piece(2, 1, 5, 9);
+        Due.same("5, less 4, 3 more, less 3, 3 more: not 5", w.film(3, 5, 9, 3), 18);
+        Due.same("so of two the least row", w.grade(0), 0);
+        Due.same("so of two the least row", w.grade(1), 2);
+        Due.same("so of two the least row", w.grade(2), 1);
         Document.term(9, "The row of grades with the greatest WORTHS together; of like ones the least row.");
         FlowHouse y = new FlowHouse();
         for (int g = 0; g < 4; g++) {
@@ -260,6 +278,7 @@ final class EdgesOfTrials {
         zero.refuses("PEAKS are all 0", x -> x.bill(5), NOTHING);
         zero.refuses("PEAKS are all 0", x -> x.bill(0), NOTHING);
         zero.answers("one is not", x -> 0 * x.sample(5, 1) + x.bill(5), 5);
+        zero.answers("it is charged all", x -> 0 * x.sample(5, 1) + 0 * x.bill(5) + x.balance(5), -5);
         BUSY.refuses("a cost of 0", x -> x.bill(0), 1000 - 41);
         FlowHouse x = new FlowHouse();
         x.sample(4, 100000);

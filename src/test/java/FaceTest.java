@@ -124,10 +124,31 @@ public final class FaceTest {
             Due.yes("import " + imports.group(1), imports.group(1).equals("java.util.Arrays"));
         }
         Due.yes("no package line", !code.contains("package "));
+        methodsAreShort(text.split("\n"));
         for (int i = 0; i < text.length(); i++) {
             if (text.charAt(i) > 126) {
                 Due.yes("plain characters alone", false);
             }
         }
+    }
+
+    /** A method ends with the first bracket that stands as far in as its own first line. */
+    private static void methodsAreShort(String[] lines) {
+        Pattern first = Pattern.compile("( {4}| {8})(?! )(?!return|throw)[\\w \\[\\]]+\\(.*");
+        int methods = 0;
+        for (int i = 0; i < lines.length; i++) {
+            Matcher m = first.matcher(lines[i]);
+            Due.yes("line " + (i + 1) + " is no longer than 100", lines[i].length() <= 100);
+            if (!m.matches() || lines[i].endsWith(";")) {
+                continue;
+            }
+            methods++;
+            int end = i;
+            while (end < lines.length && !lines[end].equals(m.group(1) + "}")) {
+                end++;
+            }
+            Due.yes("the method at line " + (i + 1) + " is short", end - i < 60);
+        }
+        Due.yes("methods were found", methods > 150);
     }
 }

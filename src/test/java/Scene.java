@@ -79,6 +79,13 @@ final class Scene {
         outside(told, call, low, high, refusal);
     }
 
+    /** The same, where what is taken is answered with 1. */
+    void rangeOfOne(String told, Told call, int low, int high, long refusal) {
+        answers(told + " " + low, x -> call.on(x, low), 1);
+        answers(told + " " + high, x -> call.on(x, high), 1);
+        outside(told, call, low, high, refusal);
+    }
+
     /** Those beyond a range are refused, near and far. */
     void outside(String told, Told call, int low, int high, long refusal) {
         int[] beyond = {low - 1, high + 1, Integer.MIN_VALUE, Integer.MAX_VALUE, low - 256, high + 256};
