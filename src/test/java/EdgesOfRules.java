@@ -406,6 +406,17 @@ final class EdgesOfRules {
 
     private static void atFirst() {
         Document.term(3, "A FLOW has RULE -1 at first: ack = w + 1000000 / w ; loss = w / 2 ; late = 1000 ;");
+        for (int w : new int[] {1000, 9900, 9901, 63985, 63999, 64000}) {
+            FlowHouse y = ruled("ack=" + w + ";loss=1;late=1;");
+            while (y.flowOf(0, 1) < 1) {
+                y.go(1);
+            }
+            y.rule(0, -1);
+            while (y.flowOf(0, 1) < 2) {
+                y.go(1);
+            }
+            Due.same("ack of " + w, y.flowOf(0, 3), Math.min(64000, w + 1000000 / w));
+        }
         FlowHouse x = new FlowHouse();
         x.line(10, 20, 2000, 2000);
         x.line(100, 20, 2000, 2000);
