@@ -27,6 +27,8 @@ final class EdgesOfFlows {
         fenceReached();
         rings();
         doubledGoOn();
+        nextThenArrivals();
+        alarmThenComing();
         sentInAll();
         sixFlows();
         markAtFirst();
@@ -67,8 +69,12 @@ final class EdgesOfFlows {
     private static void atFirst() {
         Document.term(2, "It has an ALLOWANCE w (thousandths; 1000 at first; 1000 .. 64000), a WAIT (ticks; 100 at first), "
                 + "SMOOTH, SWING (-1: none yet), LEAST (-1).");
+        Document.promise(9, "Of a FLOW: what = 0 UNITS sent, 1 OPEN, 2 GIVEN, 3 w, 4 WAIT, 5 SMOOTH, 6 SWING, 7 LEAST,");
         FlowHouse x = house(2, 10, 5);
         x.flow(200, 1, 1, 8, 1, 2, 0);
+        figure("none is sent", x, SENT, 0);
+        figure("OPEN", x, OPEN, 0);
+        figure("none is GIVEN", x, GIVEN, 0);
         figure("w", x, W, 1000);
         figure("WAIT", x, WAIT, 100);
         figure("SMOOTH", x, SMOOTH, -1);
@@ -549,6 +555,45 @@ final class EdgesOfFlows {
             Due.same("LOST there", x.lineOf(1, 7), lost < 2 ? 1 : 0);
             figure("answered", x, ANSWERS, lost < 2 ? 1 : 2);
         }
+    }
+
+    /** The first is sent at 2, ARRIVES at 4; the next one, sent from 2 on, is sent at 4, too: made before. */
+    private static void nextThenArrivals() {
+        Document.term(2, "What one EVENT brings about at once is done in it: the LINE's next letter is sent, then the ARRIVALS are "
+                + "made;");
+        FlowHouse x = house(2, 10, 2);
+        x.flow(1, 20, 10, 3, 1, 2, 0);
+        x.flow(1, 20, 10, 3, 1, 2, 0);
+        x.go(3);
+        Due.same("the first is sent, the next one begins", x.count(0) * 10 + x.lineOf(0, 1), 22);
+        x.go(1);
+        Due.same("the next one is sent", x.count(0) * 10 + x.lineOf(0, 6), 40);
+        figure("not yet", x, GIVEN, 0);
+        x.go(1);
+        Due.same("NOW", x.count(0), 4);
+        figure("the first ARRIVES", x, GIVEN, 1);
+        Due.same("its ANSWER COMES at once", x.lineOf(1, 1), 1);
+    }
+
+    /** A letter of 100 ticks ends as the ALARM rings, which was set ahead of its COMING. */
+    private static void alarmThenComing() {
+        Document.term(2, "GIVEN, then the ANSWER COMES; UNITS are ANSWERED, the TRIAL, the rule, the ALARM, then the FLOW sends as "
+                + "it may.)");
+        FlowHouse x = house(2, 1, 0);
+        x.flow(1, 100, 1, 3, 1, 2, 0);
+        x.go(2);
+        Due.same("NOW", x.count(0), 100);
+        figure("it rang", x, AGAIN, 1);
+        Due.same("the first is being sent still", x.lineOf(0, 1), 1);
+        Due.same("so the second waits", x.lineOf(0, 4), 1);
+        FlowHouse y = house(2, 1, 0);
+        y.flow(2, 10, 1, 3, 1, 2, 0);
+        y.flow(1, 11, 1, 3, 1, 2, 11);
+        ruled(y, "if(n-0,9000,1000+t*100+s*10+m)");
+        goFor(y, OPEN, 1);
+        figure("the rule knows the TRIAL, and that none is under way", y, W, 1000 + 11 * 111);
+        figure("then UNIT 1 is sent", y, SENT, 2);
+        figure("the ALARM knows the TRIAL, too", y, ALARM, 11 + 11 + 4 * 5);
     }
 
     private static void sentInAll() {

@@ -42,6 +42,8 @@ final class EdgesOfLines {
 
     private static void sentAtOnce() {
         Document.term(1, "if none is being sent there, it is sent at once;");
+        Document.promise(5, "Of a LINE: what = 0 LETTERS that CAME, 1 that began to be sent, 2 DROPPED, 3 MARKED, 4 that wait, 5 "
+                + "their SIZES, 6 whether one is being sent (1, 0),");
         line("ROOM and MARK are not looked at", coming(house(1, 0, 0, 0), 200), 1, 1, 0, 0, 0, 0, 1, 0);
         FlowHouse x = coming(house(1, 0, 0, 0), 1);
         x.go(1);

@@ -299,7 +299,7 @@ final class EdgesOfNets {
     }
 
     private static void count() {
-        Document.promise(56, "4 EVENTS still to come (with the ALARMS that are set), 5 bytes of THE TAPE, 6 of THE "
+        Document.promise(56, "0 NOW, 1 LINES, 2 FLOWS, 3 EVENTS done, 4 EVENTS still to come (with the ALARMS that are set), 5 bytes of THE TAPE, 6 of THE "
                 + "LETTER, 7 HOSTS made. OUTSIDE.");
         BUSY.outside("count's what", (x, v) -> x.count(v), 0, 7, OUTSIDE);
         int[] due = {-1, 3, 2, 40, -1, 20, 4, 2};

@@ -314,6 +314,8 @@ final class EdgesOfRules {
     }
 
     private static void worth() {
+        Document.promise(14, "The VALUE of a RULE's text (0 ack, 1 loss, 2 late, 3 mark: as loss, if it lacks) with these numbers, "
+                + "as it is worked out.");
         Document.promise(14, "NOTHING: no such RULE, text.");
         BUSY.outside("worth's RULE", (x, v) -> x.worth(v, 0, 1, 1, 1, 1, 1), 0, 5, NOTHING);
         for (int r : new int[] {1, 2, 4, 5}) {

@@ -428,6 +428,8 @@ final class EdgesOfStore {
     }
 
     private static void climbFaults() {
+        Document.promise(54, "behind the last one the STAMPS of the HOST in the first cell of a SHELF (CAST to 4; the HOST to 7) "
+                + "are asked.");
         Document.promise(54, "The STAIR stopAt (if it is one of these) ends what comes there: 100 and its FAULT is the answer "
                 + "then. The STAMPS. UNKNOWN; OUTSIDE: n; FAULTS 2, 1, 3 of the SHELF, 2, 1 of the HOST.");
         Scene shelves = new Scene("shelves to climb from", x -> {

@@ -13,6 +13,7 @@ final class EdgesOfTrials {
     static void all() {
         tried();
         smallest();
+        allThereIs();
         bad();
         piece();
         speed();
@@ -64,6 +65,40 @@ final class EdgesOfTrials {
         Due.same("one number on lines of two letters", x.tried(1, 1, 2, 0), 12);
         Due.same("two on their way at once", x.bad(-1), 4);
         Due.same("both are taken", x.bad(2) * 10 + x.bad(3), 11);
+    }
+
+    /** How many STATES, how long a BAD row, by U, Q, C, K: worked out by another program over lists. */
+    private static void allThereIs() {
+        Document.term(8, "0 send (or again) the UNIT, if the line there has room;");
+        Document.term(8, "in either case its number is answered, if the line back has room; 2 the first answer is taken: if it is "
+                + "the number of the UNIT, the next one is to be sent;");
+        Document.term(8, "Over when all UNITS are answered (no STEPS then). BAD: a UNIT is GIVEN that is not how many were GIVEN "
+                + "before: the row ends there, in no STATE.");
+        Document.term(8, "(of like length that met first; STEPS that end in a STATE met before are no new ones).");
+        int[][] due = {
+            {8, 4}, {8, 4}, {12, 4}, {12, 4}, {8, 0}, {8, 0}, {18, 0}, {18, 0}, {8, 0}, {8, 0}, {18, 0},
+            {18, 0}, {15, 4}, {15, 4}, {24, 4}, {34, 4}, {19, 0}, {19, 0}, {53, 0}, {92, 8}, {19, 0},
+            {19, 0}, {53, 0}, {92, 0}, {22, 4}, {22, 4}, {36, 4}, {67, 4}, {30, 0}, {30, 0}, {88, 0},
+            {248, 8}, {30, 0}, {30, 0}, {88, 0}, {293, 12}, {29, 4}, {29, 4}, {48, 4}, {111, 4}, {41, 0},
+            {41, 0}, {123, 0}, {520, 8}, {41, 0}, {41, 0}, {123, 0}, {636, 12}
+        };
+        int row = 0;
+        for (int u = 1; u <= 4; u++) {
+            for (int q = 1; q <= 3; q++) {
+                for (int ck = 0; ck < 4; ck++) {
+                    FlowHouse x = new FlowHouse();
+                    Due.same("tried " + u + " " + q + " " + ck, x.tried(u, q, 1 + ck / 2, ck % 2), due[row][0]);
+                    Due.same("bad of " + u + " " + q + " " + ck, x.bad(-1), due[row][1]);
+                    row++;
+                }
+            }
+        }
+        FlowHouse x = new FlowHouse();
+        x.tried(4, 3, 2, 1);
+        int[] steps = {0, 0, 1, 2, 0, 5, 1, 2, 0, 5, 1, 1};
+        for (int i = 0; i < steps.length; i++) {
+            Due.same("that met first: STEP " + i, x.bad(i), steps[i]);
+        }
     }
 
     private static void bad() {
