@@ -967,6 +967,8 @@ public final class FlowHouse {
         private static final int SENT_TO_END = 0, ARRIVAL = 1;
         private static final int BEGINNING = 2;
         private static final int LATE_TICKS = 7;
+        /** One EVENT has a LETTER sent and two ARRIVALS made at most; ALARMS stand elsewhere. */
+        private static final int MOST_MADE_AT_ONCE = 3;
 
         private final Rules rules;
         private final Line[] lines = new Line[LINES];
@@ -1007,6 +1009,7 @@ public final class FlowHouse {
             }
             flows[flowCount] = flow;
             flowCount++;
+            makeRoomForEvents();
             plan(tick, BEGINNING, flowCount - 1);
             return flowCount - 1;
         }
@@ -1039,9 +1042,15 @@ public final class FlowHouse {
             return all;
         }
 
+        private void makeRoomForEvents() {
+            if (pending + MOST_MADE_AT_ONCE > events.length) {
+                events = Arrays.copyOf(events, 2 * events.length);
+            }
+        }
+
         private void plan(int tick, int kind, int what) {
             if (pending >= events.length) {
-                events = Arrays.copyOf(events, 2 * pending);
+                return;
             }
             long event = (long) tick << TICK_AT | (long) made << MADE_AT
                     | (long) kind << KIND_AT | what;
@@ -1090,6 +1099,7 @@ public final class FlowHouse {
 
         /** Does the next EVENT, if there is one. */
         boolean doNext() {
+            makeRoomForEvents();
             Flow sender = firstToRing();
             if (sender != null && (pending == 0 || sender.alarm < events[0])) {
                 ring(sender);
@@ -1654,9 +1664,9 @@ public final class FlowHouse {
                 case TIMES:
                     return a * b;
                 case LEAST:
-                    return Math.min(a, b);
+                    return a < b ? a : b;
                 case GREATEST:
-                    return Math.max(a, b);
+                    return a > b ? a : b;
                 default:
                     break;
             }

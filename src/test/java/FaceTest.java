@@ -6,7 +6,9 @@ import java.nio.file.Files;
 import java.nio.file.Path;
 import java.util.ArrayList;
 import java.util.List;
+import java.util.Map;
 import java.util.Set;
+import java.util.TreeMap;
 import java.util.TreeSet;
 import java.util.regex.Matcher;
 import java.util.regex.Pattern;
@@ -18,6 +20,12 @@ public final class FaceTest {
         "->", "::", "finally", "synchronized", "assert ", "getMessage", "hashCode", "System.out",
         "Exact(", "double", "float", "catch", "volatile", "native", "import java.util.*"
     };
+
+    private static final Pattern CALL =
+            Pattern.compile("\\b(?!if\\b|for\\b|while\\b|switch\\b|return\\b)(\\w+)\\(");
+
+    private static final Map<String, Set<String>> calls = new TreeMap<>();
+    private static String deepest = "";
 
     public static void main(String[] args) throws Exception {
         constants();
@@ -136,6 +144,7 @@ public final class FaceTest {
     private static void methodsAreShort(String[] lines) {
         Pattern first = Pattern.compile("( {4}| {8})(?! )(?!return|throw)[\\w \\[\\]]+\\(.*");
         int methods = 0;
+        calls.clear();
         for (int i = 0; i < lines.length; i++) {
             Matcher m = first.matcher(lines[i]);
             Due.yes("line " + (i + 1) + " is no longer than 100", lines[i].length() <= 100);
@@ -148,7 +157,44 @@ public final class FaceTest {
                 end++;
             }
             Due.yes("the method at line " + (i + 1) + " is short", end - i < 60);
+            noteCalls(lines, i, end);
         }
         Due.yes("methods were found", methods > 150);
+        for (String method : calls.keySet()) {
+            deepest = "";
+            int depth = depth(method, new ArrayList<>());
+            Due.yes(method + " goes eight deep at most, not " + deepest, depth <= 8);
+        }
+    }
+
+    /** What each method calls, by name alone; the library's methods are counted, too. */
+    private static void noteCalls(String[] lines, int from, int to) {
+        Matcher name = CALL.matcher(lines[from]);
+        if (!name.find()) {
+            return;
+        }
+        Set<String> all = calls.computeIfAbsent(name.group(1), k -> new TreeSet<>());
+        for (int i = from + 1; i < to; i++) {
+            Matcher m = CALL.matcher(lines[i].replaceAll("^ *(//|/\\*|\\*).*", ""));
+            while (m.find()) {
+                all.add(m.group(1));
+            }
+        }
+    }
+
+    /** How many calls stand open at once below a method, one that is open already not counted. */
+    private static int depth(String method, List<String> open) {
+        open.add(method);
+        int most = 0;
+        for (String next : calls.getOrDefault(method, Set.of())) {
+            if (!open.contains(next)) {
+                most = Math.max(most, depth(next, open));
+            }
+        }
+        if (most == 0 && open.size() > 8) {
+            deepest = String.join(" ", open);
+        }
+        open.remove(open.size() - 1);
+        return most + 1;
     }
 }
