@@ -132,12 +132,49 @@ public final class FaceTest {
             Due.yes("import " + imports.group(1), imports.group(1).equals("java.util.Arrays"));
         }
         Due.yes("no package line", !code.contains("package "));
+        library(code);
+        throwsAndStatics(code);
         methodsAreShort(text.split("\n"));
         for (int i = 0; i < text.length(); i++) {
             if (text.charAt(i) > 126) {
                 Due.yes("plain characters alone", false);
             }
         }
+    }
+
+    /** Rule 4: what is called of another class is one's own, or stands in the list. */
+    private static void library(String code) {
+        Set<String> own = new TreeSet<>(Set.of("Arrays.fill", "Arrays.copyOf", "System.arraycopy",
+                "Math.max", "Math.min", "Math.abs", "Integer.bitCount"));
+        int found = 0;
+        Matcher m = Pattern.compile("\\b([A-Z]\\w*[a-z]\\w*)\\.(\\w+)\\(").matcher(code);
+        while (m.find()) {
+            found++;
+            Due.yes(m.group() + " is in the list", own.contains(m.group(1) + "." + m.group(2)));
+        }
+        Due.yes("calls of the library were found", found > 10);
+        Due.yes("no texts joined by +", !code.contains("\" +") && !code.contains("+ \""));
+    }
+
+    /** Rules 5 and 6: one throw, in worth(); static fields are final, of types that are told. */
+    private static void throwsAndStatics(String code) {
+        Matcher m = Pattern.compile("throw\\b[^;]*;").matcher(code);
+        int thrown = 0;
+        while (m.find()) {
+            thrown++;
+            Due.yes(m.group(), m.group().equals("throw new ArithmeticException(\"by 0\");"));
+        }
+        Due.same("throws", thrown, 1);
+        Matcher fields = Pattern.compile("(?m)^ *((?:public|private) )?static (?!final class)([^(]*?)=")
+                .matcher(code);
+        int found = 0;
+        while (fields.find()) {
+            found++;
+            Due.yes(fields.group() + " is final and plain", fields.group(2).matches(
+                    "final (int|long|boolean|char|String|int\\[\\]|long\\[\\]) (?s:.*)"));
+        }
+        Due.yes("static fields were found", found > 50);
+        Due.yes("no static block", !Pattern.compile("static *\\{").matcher(code).find());
     }
 
     /** A method ends with the first bracket that stands as far in as its own first line. */
